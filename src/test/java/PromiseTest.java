@@ -134,10 +134,12 @@ public final class PromiseTest {
         due("digest after a wave", wave.digest(), new ArmatureWinding().digest());
 
         ArmatureWinding wide = armature(8, 24, 3);
+        wide.setOpen(0, true);
         wide.setOpen(71, true);
         wide.setArmature(2, 2, 1);
         wide.setArmature(8, 24, 3);
-        due("a coil of an earlier armature", wide.setOpen(71, false), 0);
+        due("first coil of an earlier armature", wide.setOpen(0, false), 0);
+        due("last coil of an earlier armature", wide.setOpen(71, false), 0);
     }
 
     private static void setWinding() {
@@ -620,6 +622,9 @@ public final class PromiseTest {
         due("0 broken", x.isBalanced(0), 0);
         x.setOpen(4, true);
         due("0 and 3 broken", x.isBalanced(0), 1);
+        x.setOpen(0, false);
+        due("3 broken, 0 differs from the others", x.isBalanced(0), 0);
+        x.setOpen(0, true);
         x.setOpen(4, false);
         x.setOpen(1, true);
         due("0 and 1 broken", x.isBalanced(0), 0);
