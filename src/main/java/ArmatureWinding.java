@@ -21,7 +21,7 @@ public final class ArmatureWinding {
     // How a double is laid out in 64 bits.
     private static final int FRACTION_BITS = 52;
     private static final long EXPONENT_OF_ONE = 1023L;
-    // Far above the seven that a resistance can need.
+    // Far above the six that a resistance can need.
     private static final int MOST_HALVINGS = 64;
 
     private static final long DIGEST_START = 1789L;
