@@ -1,10 +1,11 @@
-/** Each promise of the document, by answers worked out by hand: ordinary inputs, edges, wrong inputs. */
+/**
+ * Each promise of the document, by answers worked out by hand: ordinary inputs, edges, wrong inputs.
+ * What a refused call leaves, and which of several errors is returned, is RefusalTest's.
+ */
 public final class PromiseTest {
     private static final int LAP = 0, WAVE = 1;
     private static final int OUT = -1001, NO_ITEM = -1002, NOT_POSSIBLE = -1003, NONE = -1004, BROKEN = -1005;
     private static final int MIN = Integer.MIN_VALUE, MAX = Integer.MAX_VALUE;
-
-    private static String promise = "";
 
     public static void main(String[] args) {
         newObject();
@@ -37,17 +38,15 @@ public final class PromiseTest {
         equalizerBar();
         digest();
         digestOfErrorCodes();
-        errorsChangeNothing();
-        firstErrorIsReturned();
         Due.end();
     }
 
     private static void begin(String name) {
-        promise = name + ": ";
+        Due.begin(name);
     }
 
     private static void due(String call, long got, long want) {
-        Due.due(promise + call, got, want);
+        Due.due(call, got, want);
     }
 
     private static ArmatureWinding armature(int poles, int slots, int coilsPerSlot) {
@@ -752,63 +751,5 @@ public final class PromiseTest {
             1, 1,
             0, 1, 1, 0, 2, 1, 1, 2, 2, -2, 2, 1, 3, -2, 2, 3, 2, 0, 0, -2,
             2, bits(1.0 / 3.5), NONE));
-    }
-
-    private static void errorsChangeNothing() {
-        begin("errors change nothing");
-        ArmatureWinding x = usedDuplex();
-        long before = x.digest();
-        due("setArmature", x.setArmature(4, 24, 4), OUT);
-        due("setArmature", x.setArmature(4, 3, 2), OUT);
-        due("setArmature", x.setArmature(5, 24, 2), OUT);
-        due("digest", x.digest(), before);
-        due("setWinding", x.setWinding(2, 1, true), OUT);
-        due("setWinding", x.setWinding(WAVE, 4, true), OUT);
-        due("setWinding", x.setWinding(WAVE, 3, true), NOT_POSSIBLE);
-        due("digest", x.digest(), before);
-        due("setChording", x.setChording(6), OUT);
-        due("setChording", x.setChording(-1), OUT);
-        due("digest", x.digest(), before);
-        due("setOpen", x.setOpen(20, true), NO_ITEM);
-        due("setOpen", x.setOpen(-1, true), NO_ITEM);
-        due("digest", x.digest(), before);
-        queriesWithErrors(x);
-        due("digest", x.digest(), before);
-    }
-
-    private static void queriesWithErrors(ArmatureWinding x) {
-        due("endBar", x.endBar(20), NO_ITEM);
-        due("coilEndingAt", x.coilEndingAt(20), NO_ITEM);
-        due("upperSlot", x.upperSlot(20), NO_ITEM);
-        due("lowerSlot", x.lowerSlot(20), NO_ITEM);
-        due("openCoilsIn", x.openCoilsIn(10), NO_ITEM);
-        due("circuitOf", x.circuitOf(20), NO_ITEM);
-        due("coilAt", x.coilAt(2, 0), NO_ITEM);
-        due("coilAt", x.coilAt(1, 10), NONE);
-        due("brushBar", x.brushBar(6), NO_ITEM);
-        due("brushOn", x.brushOn(20), NO_ITEM);
-        due("brushOn", x.brushOn(1), NONE);
-        due("pathLength", x.pathLength(6), NO_ITEM);
-        due("pathEnd", x.pathEnd(6), NO_ITEM);
-        due("coilVoltage", x.coilVoltage(20, 0), NO_ITEM);
-        due("coilVoltage", x.coilVoltage(0, 101), OUT);
-        due("pathVoltage", x.pathVoltage(6, 0), NO_ITEM);
-        due("pathVoltage", x.pathVoltage(0, 101), OUT);
-        due("isBalanced", x.isBalanced(-1), OUT);
-        due("equalizerBar", x.equalizerBar(20), NO_ITEM);
-        due("equalizerBar", x.equalizerBar(0), NONE);
-    }
-
-    private static void firstErrorIsReturned() {
-        begin("the first error is returned");
-        ArmatureWinding x = usedDuplex();
-        due("setWinding, plex before the pitch", x.setWinding(WAVE, 5, true), OUT);
-        due("coilAt, circuit before place", x.coilAt(2, 99), NO_ITEM);
-        due("coilVoltage, coil before turn", x.coilVoltage(20, 101), NO_ITEM);
-        due("pathVoltage, brush before turn", x.pathVoltage(6, 101), NO_ITEM);
-        for (int brush = 0; brush < 6; brush++) {
-            due("pathVoltage, turn before the open coil", x.pathVoltage(brush, 101), OUT);
-        }
-        due("equalizerBar, bar before pitch", x.equalizerBar(20), NO_ITEM);
     }
 }
