@@ -1,4 +1,5 @@
 import java.lang.reflect.Constructor;
+import java.lang.reflect.Executable;
 import java.lang.reflect.Field;
 import java.lang.reflect.Member;
 import java.lang.reflect.Method;
@@ -11,18 +12,21 @@ import java.util.TreeSet;
 /** The class shows the document's face and no more, and keeps to rules 1 and 5 of LANGUAGE.md. */
 public final class FaceTest {
     private static final List<String> FACE = List.of(
-        "new()",
-        "int setArmature(int, int, int)", "int setWinding(int, int, boolean)",
-        "int setChording(int)", "int setOpen(int, boolean)",
-        "int coilCount()", "int slotPitch()", "int endBar(int)", "int coilEndingAt(int)",
-        "int upperSlot(int)", "int lowerSlot(int)", "int openCoilsIn(int)",
-        "int circuitCount()", "int circuitOf(int)", "int coilAt(int, int)", "int closedCircuits()",
-        "int brushBar(int)", "int brushOn(int)", "int pathLength(int)", "int pathEnd(int)",
-        "int coilVoltage(int, int)", "int pathVoltage(int, int)",
-        "int isBalanced(int)", "int balancedTurns()", "long resistance()", "int equalizerBar(int)",
-        "long digest()",
-        "LAP = 0", "WAVE = 1", "OUT_OF_RANGE = -1001", "NO_SUCH_ITEM = -1002",
-        "NOT_POSSIBLE = -1003", "NONE = -1004", "BROKEN = -1005");
+        "public new()",
+        "public int setArmature(int, int, int)", "public int setWinding(int, int, boolean)",
+        "public int setChording(int)", "public int setOpen(int, boolean)",
+        "public int coilCount()", "public int slotPitch()", "public int endBar(int)", "public int coilEndingAt(int)",
+        "public int upperSlot(int)", "public int lowerSlot(int)", "public int openCoilsIn(int)",
+        "public int circuitCount()", "public int circuitOf(int)", "public int coilAt(int, int)",
+        "public int closedCircuits()",
+        "public int brushBar(int)", "public int brushOn(int)", "public int pathLength(int)", "public int pathEnd(int)",
+        "public int coilVoltage(int, int)", "public int pathVoltage(int, int)",
+        "public int isBalanced(int)", "public int balancedTurns()", "public long resistance()",
+        "public int equalizerBar(int)", "public long digest()",
+        "public static final int LAP = 0", "public static final int WAVE = 1",
+        "public static final int OUT_OF_RANGE = -1001", "public static final int NO_SUCH_ITEM = -1002",
+        "public static final int NOT_POSSIBLE = -1003", "public static final int NONE = -1004",
+        "public static final int BROKEN = -1005");
 
     private static final Set<Class<?>> STATIC_TYPES =
         Set.of(int.class, long.class, boolean.class, char.class, String.class);
@@ -32,34 +36,42 @@ public final class FaceTest {
         Due.due("public final class", face.getModifiers(), Modifier.PUBLIC | Modifier.FINAL);
         Due.due("superclass is Object", face.getSuperclass() == Object.class ? 1 : 0, 1);
         Due.due("interfaces", face.getInterfaces().length, 0);
+        Due.dueText("the package", face.getPackageName(), "");
         Due.dueText("the face", lines(shownMembers(face)), lines(FACE));
         staticFieldsAreConstants(face);
         privateNamesAreNotPublicOnes(face);
         Due.end();
     }
 
+    /** With the modifiers, since a member without "public" would serve all the other tests as well. */
     private static List<String> shownMembers(Class<?> face) throws IllegalAccessException {
         TreeSet<String> shown = new TreeSet<>();
         for (Constructor<?> c : face.getDeclaredConstructors()) {
             if (isShown(c)) {
-                shown.add("new(" + types(c.getParameterTypes()) + ")");
+                shown.add(modifiers(c) + "new(" + types(c.getParameterTypes()) + ")" + thrown(c));
             }
         }
         for (Method m : face.getDeclaredMethods()) {
             if (isShown(m)) {
-                String kind = Modifier.isStatic(m.getModifiers()) ? "static " : "";
-                shown.add(kind + m.getReturnType().getName() + " " + m.getName()
-                    + "(" + types(m.getParameterTypes()) + ")");
+                shown.add(modifiers(m) + m.getReturnType().getName() + " " + m.getName()
+                    + "(" + types(m.getParameterTypes()) + ")" + thrown(m));
             }
         }
         for (Field f : face.getDeclaredFields()) {
             if (isShown(f)) {
-                boolean constant = f.getType() == int.class
-                    && f.getModifiers() == (Modifier.PUBLIC | Modifier.STATIC | Modifier.FINAL);
-                shown.add(f.getName() + (constant ? " = " + f.getInt(null) : " is no public constant int"));
+                String value = Modifier.isStatic(f.getModifiers()) ? f.get(null).toString() : "of each object";
+                shown.add(modifiers(f) + f.getType().getName() + " " + f.getName() + " = " + value);
             }
         }
         return List.copyOf(shown);
+    }
+
+    private static String modifiers(Member member) {
+        return member.getModifiers() == 0 ? "" : Modifier.toString(member.getModifiers()) + " ";
+    }
+
+    private static String thrown(Executable called) {
+        return called.getExceptionTypes().length == 0 ? "" : " throws " + types(called.getExceptionTypes());
     }
 
     private static boolean isShown(Member member) {

@@ -26,6 +26,7 @@ public final class PromiseBoundaryTest {
         rangeOfChording();
         previousChording();
         wasOpenOrNot();
+        changesLeaveTheWinding();
         openCoilsNoneAndAll();
         openCoilsWithBothSides();
         circuitCountNoneAndAll();
@@ -221,6 +222,17 @@ public final class PromiseBoundaryTest {
         }
         Due.due("chording", x.setChording(0), 2);
         Due.due("brush", x.brushBar(3), 11);
+        Made.atEachWinding(4, 15, 1, (type, plex, progressive) -> {
+            String at = type + " " + plex + " " + progressive + ", ";
+            ArmatureWinding open = Made.wound(Made.chorded(Made.allOpened(Made.armature(4, 15, 1)), 5), type, plex, progressive);
+            ArmatureWinding closed = Made.wound(Made.armature(4, 15, 1), type, plex, progressive);
+            for (int coil = 0; coil < 15; coil++) {
+                Due.due(at + "open coil " + coil, open.setOpen(coil, true), 1);
+                Due.due(at + "closed coil " + coil, closed.setOpen(coil, false), 0);
+            }
+            Due.due(at + "chording 5", open.setChording(0), 5);
+            Due.due(at + "chording 0", closed.setChording(0), 0);
+        });
     }
 
     // ---- 4 setChording
@@ -264,6 +276,25 @@ public final class PromiseBoundaryTest {
                 Due.due(at + " open, close", x.setOpen(coil, false), 1);
                 Due.due(at + " closed again, close", x.setOpen(coil, false), 0);
             }
+        });
+    }
+
+    private static void changesLeaveTheWinding() {
+        Due.begin("4, 5: sets the chording, opens a coil or closes it again, and nothing else");
+        Made.atEachWinding(4, 15, 1, (type, plex, progressive) -> {
+            String at = type + " " + plex + " " + progressive + ", ";
+            ArmatureWinding x = Made.wound(Made.armature(4, 15, 1), type, plex, progressive);
+            long digest = x.digest();
+            for (int chording = 1; chording <= 5; chording++) {
+                Made.chorded(x, chording);
+            }
+            Due.due(at + "chorded, no coil open", x.closedCircuits(), x.circuitCount());
+            Made.allOpened(x);
+            Due.due(at + "all opened, chording", x.setChording(0), 5);
+            for (int coil = 0; coil < 15; coil++) {
+                Due.due(at + "coil " + coil + " stayed open", x.setOpen(coil, false), 1);
+            }
+            Due.due(at + "and all back", x.digest(), digest);
         });
     }
 
